@@ -1,0 +1,79 @@
+import java.util.Map;
+import java.util.Random;
+
+/** Every line graph with eight vertices by its naming, other graphs with seven and eight by chance, and runs of calls. */
+public final class EightVerticesTest {
+    private static final int GRAPHS = 6000;
+    private static final int RUNS = 300;
+    private static final int CALLS_OF_A_RUN = 512;
+
+    /** The seed is fixed, so every run of the test looks at the same graphs. */
+    private static final Random CHANCE = new Random(20261115);
+
+    public static void main(String[] args) {
+        everyNamingOfEight();
+        graphsByChance();
+        lineGraphsByChance();
+        runsByChance();
+        Checks.finish();
+    }
+
+    private static void everyNamingOfEight() {
+        for (Map.Entry<Integer, Long> entry : Namings.of(8).rows().entrySet()) {
+            PairedEnds graph = Graphs.ofCode(8, entry.getKey());
+            // low and high of all vertices cost a search each: two of them by turns are enough here.
+            int v = entry.getKey() % 8;
+            Checks.due("low(" + v + ") of " + entry.getKey(), Namings.low(entry.getValue(), v), () -> graph.low(v));
+            Checks.due("high(7) of " + entry.getKey(), Namings.high(entry.getValue(), 7), () -> graph.high(7));
+        }
+    }
+
+    private static void graphsByChance() {
+        for (int i = 0; i < GRAPHS; i++) {
+            int n = 7 + i % 2;
+            int code = CHANCE.nextInt(1 << n * (n - 1) / 2);
+            int thinned = i % 3 == 0 ? code & CHANCE.nextInt() : i % 3 == 1 ? code : code | CHANCE.nextInt() & (1 << n * (n - 1) / 2) - 1;
+            Twins.ofCode(n, thinned).askAll();
+        }
+    }
+
+    private static void lineGraphsByChance() {
+        int some = 0;
+        for (int code : Namings.of(8).rows().keySet()) {
+            if (some++ % 1000 == 0) {
+                Twins.ofCode(8, code).askAll();
+            }
+        }
+    }
+
+    private static void runsByChance() {
+        for (int run = 0; run < RUNS; run++) {
+            Twins twins = new Twins();
+            for (int call = 0; call < CALLS_OF_A_RUN; call++) {
+                someCall(twins);
+            }
+        }
+    }
+
+    private static void someCall(Twins twins) {
+        int u = someNumber(twins.vertices());
+        int v = someNumber(twins.vertices());
+        switch (CHANCE.nextInt(16)) {
+            case 0, 1 -> twins.grow();
+            case 2 -> twins.shrink();
+            case 3, 4, 5, 6 -> twins.join(u, v);
+            case 7, 8 -> twins.part(u, v);
+            case 9 -> twins.adjacent(u, v);
+            case 10 -> twins.leader(u);
+            case 11, 12 -> twins.low(u);
+            case 13, 14 -> twins.high(u);
+            default -> twins.ask();
+        }
+    }
+
+    /** Mostly a vertex, now and then a number that is none. */
+    private static int someNumber(int n) {
+        int[] none = {-1, n, n + 1, 8, 32, Integer.MIN_VALUE, Integer.MAX_VALUE};
+        return n == 0 || CHANCE.nextInt(20) == 0 ? none[CHANCE.nextInt(none.length)] : CHANCE.nextInt(n);
+    }
+}
