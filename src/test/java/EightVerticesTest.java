@@ -1,7 +1,7 @@
 import java.util.Map;
 import java.util.Random;
 
-/** Every line graph with eight vertices by its naming, other graphs with seven and eight by chance, and runs of calls. */
+/** The naming of every line graph with eight vertices; other graphs and runs of calls by chance. */
 public final class EightVerticesTest {
     private static final int GRAPHS = 6000;
     private static final int RUNS = 300;
@@ -21,7 +21,7 @@ public final class EightVerticesTest {
     private static void everyNamingOfEight() {
         for (Map.Entry<Integer, Long> entry : Namings.of(8).rows().entrySet()) {
             PairedEnds graph = Graphs.ofCode(8, entry.getKey());
-            // low and high of all vertices cost a search each: two of them by turns are enough here.
+            // Every call searches anew, and there are millions: one low by turns and the last high will do.
             int v = entry.getKey() % 8;
             Checks.due("low(" + v + ") of " + entry.getKey(), Namings.low(entry.getValue(), v), () -> graph.low(v));
             Checks.due("high(7) of " + entry.getKey(), Namings.high(entry.getValue(), 7), () -> graph.high(7));
@@ -31,10 +31,15 @@ public final class EightVerticesTest {
     private static void graphsByChance() {
         for (int i = 0; i < GRAPHS; i++) {
             int n = 7 + i % 2;
-            int code = CHANCE.nextInt(1 << n * (n - 1) / 2);
-            int thinned = i % 3 == 0 ? code & CHANCE.nextInt() : i % 3 == 1 ? code : code | CHANCE.nextInt() & (1 << n * (n - 1) / 2) - 1;
-            Twins.ofCode(n, thinned).askAll();
+            Twins.ofCode(n, someCode(1 << n * (n - 1) / 2, i % 3)).askAll();
         }
+    }
+
+    /** By the kind with few edges, with many or with about half of all. */
+    private static int someCode(int bound, int kind) {
+        int one = CHANCE.nextInt(bound);
+        int other = CHANCE.nextInt(bound);
+        return kind == 0 ? one & other : kind == 1 ? one | other : one;
     }
 
     private static void lineGraphsByChance() {

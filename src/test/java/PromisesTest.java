@@ -190,6 +190,12 @@ public final class PromisesTest {
         Checks.due("11: ends() of three close", 4, () -> Graphs.full(3).ends());
         Checks.due("11: ends() of one vertex", 2, () -> Graphs.made(1).ends());
         Checks.due("11: ends() of a star of four", STATE, () -> Graphs.star(4).ends());
+        PairedEnds graph = Graphs.made(4);
+        Checks.due("11: ends() of four apart", 8, graph::ends);
+        graph.join(0, 1);
+        Checks.due("11: ends() after join(0, 1)", 7, graph::ends);
+        graph.shrink();
+        Checks.due("11: ends() after shrink()", 5, graph::ends);
     }
 
     private static void promises12And13LowAndHigh() {
