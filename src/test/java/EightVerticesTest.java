@@ -1,7 +1,7 @@
 import java.util.Map;
 import java.util.Random;
 
-/** The naming of every line graph with eight vertices; other graphs and runs of calls by chance. */
+/** Two numbers of the naming of every line graph with eight vertices; graphs and runs of calls by chance. */
 public final class EightVerticesTest {
     private static final int GRAPHS = 6000;
     private static final int RUNS = 300;
@@ -11,14 +11,14 @@ public final class EightVerticesTest {
     private static final Random CHANCE = new Random(20261115);
 
     public static void main(String[] args) {
-        everyNamingOfEight();
+        everyLineGraphWithEight();
         graphsByChance();
         lineGraphsByChance();
         runsByChance();
         Checks.finish();
     }
 
-    private static void everyNamingOfEight() {
+    private static void everyLineGraphWithEight() {
         for (Map.Entry<Integer, Long> entry : Namings.of(8).rows().entrySet()) {
             PairedEnds graph = Graphs.ofCode(8, entry.getKey());
             // Every call searches anew, and there are millions: one low by turns and the last high will do.
