@@ -1,8 +1,8 @@
 /** The promises one by one, with answers worked out by hand from the document. */
 public final class PromisesTest {
-    private static final String NO_VERTEX = "throws.IndexOutOfBoundsException";
-    private static final String ONE_VERTEX = "throws.IllegalArgumentException";
-    private static final String STATE = "throws.IllegalStateException";
+    private static final String NO_VERTEX = Checks.NO_VERTEX;
+    private static final String ONE_VERTEX = Checks.ONE_VERTEX;
+    private static final String STATE = Checks.STATE;
 
     private static final int[] WRONG = {-1, 4, 8, 32, -32, Integer.MIN_VALUE, Integer.MAX_VALUE};
 
@@ -61,23 +61,16 @@ public final class PromisesTest {
         Checks.due("2: and from the other side", false, () -> graph.adjacent(7, 6));
     }
 
-    private static String shrunk(PairedEnds graph) {
-        return Checks.outcome(() -> {
-            graph.shrink();
-            return "nothing";
-        });
-    }
-
     private static void promise3Shrink() {
         PairedEnds graph = Graphs.full(3);
-        Checks.due("3: shrink()", "nothing", () -> shrunk(graph));
+        Checks.due("3: shrink()", "nothing", () -> Graphs.shrunk(graph));
         Checks.due("3: vertices()", 2, graph::vertices);
         Checks.due("3: edges()", 1, graph::edges);
         Checks.due("3: adjacent(0, 1)", true, () -> graph.adjacent(0, 1));
         Checks.due("3: adjacent(0, 2)", NO_VERTEX, () -> graph.adjacent(0, 2));
-        Checks.due("3: shrink()", "nothing", () -> shrunk(graph));
-        Checks.due("3: shrink()", "nothing", () -> shrunk(graph));
-        Checks.due("3: shrink() with none", STATE, () -> shrunk(graph));
+        Checks.due("3: shrink()", "nothing", () -> Graphs.shrunk(graph));
+        Checks.due("3: shrink()", "nothing", () -> Graphs.shrunk(graph));
+        Checks.due("3: shrink() with none", STATE, () -> Graphs.shrunk(graph));
         Checks.due("3: vertices() after the throw", 0, graph::vertices);
         Checks.due("3: grow() after the throw", 0, graph::grow);
     }

@@ -4,11 +4,33 @@ final class Checks {
         Object run();
     }
 
+    static final String NO_VERTEX = "throws.IndexOutOfBoundsException";
+    static final String ONE_VERTEX = "throws.IllegalArgumentException";
+    static final String STATE = "throws.IllegalStateException";
+
     private static final int PRINTED_AT_MOST = 40;
+    private static String prefix = "";
     private static int done = 0;
     private static int wrong = 0;
 
     private Checks() {
+    }
+
+    /** One sentence of the document and the test that is its own, which must look at something. */
+    static void sentence(String where, String words, Runnable test) {
+        int doneBefore = done;
+        int wrongBefore = wrong;
+        prefix = where + ": ";
+        due("the test itself", "ran", () -> {
+            test.run();
+            return "ran";
+        });
+        prefix = "";
+        if (done == doneBefore + 1) {
+            wrong++;
+            System.out.println(where + ": nothing was looked at");
+        }
+        System.out.println((wrong == wrongBefore ? "  holds: " : "  BROKEN: ") + where + " \"" + words + "\"");
     }
 
     /** The answer as a text; an exception as the issues write it. */
@@ -20,19 +42,21 @@ final class Checks {
         }
     }
 
-    static void due(String what, Object want, Call call) {
-        same(what, outcome(call), String.valueOf(want));
+    /** Whether the answer was as due. */
+    static boolean due(String what, Object want, Call call) {
+        return same(what, outcome(call), String.valueOf(want));
     }
 
-    static void same(CharSequence what, String got, String want) {
+    static boolean same(CharSequence what, String got, String want) {
         done++;
         if (got.equals(want)) {
-            return;
+            return true;
         }
         wrong++;
         if (wrong <= PRINTED_AT_MOST) {
-            System.out.println(what + " answered " + got + ", due is " + want);
+            System.out.println(prefix + what + " answered " + got + ", due is " + want);
         }
+        return false;
     }
 
     static void finish() {

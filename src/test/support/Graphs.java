@@ -3,6 +3,32 @@ final class Graphs {
     private Graphs() {
     }
 
+    /**
+     * Beineke's nine graphs that are no line graphs while each part of them is one: the number of
+     * vertices and then the edges, two numbers each.
+     */
+    static final int[][] SPOILING = {
+        {4, 0, 1, 0, 2, 0, 3},
+        {5, 0, 2, 1, 2, 0, 3, 1, 3, 2, 3, 0, 4, 1, 4},
+        {5, 0, 1, 0, 2, 1, 2, 0, 3, 1, 3, 2, 3, 0, 4, 1, 4, 2, 4},
+        {6, 0, 2, 1, 2, 0, 3, 1, 3, 2, 3, 1, 4, 0, 5},
+        {6, 0, 1, 0, 2, 1, 2, 1, 3, 2, 3, 1, 4, 2, 4, 3, 4, 0, 5},
+        {6, 0, 1, 0, 2, 1, 2, 0, 3, 2, 3, 2, 4, 3, 4, 0, 5, 1, 5},
+        {6, 1, 2, 0, 3, 2, 3, 0, 4, 2, 4, 3, 4, 0, 5, 1, 5},
+        {6, 0, 1, 0, 2, 1, 2, 0, 3, 1, 3, 0, 4, 1, 4, 3, 4, 0, 5, 1, 5, 2, 5},
+        {6, 0, 1, 0, 2, 0, 3, 2, 3, 0, 4, 1, 4, 3, 4, 0, 5, 1, 5, 2, 5},
+    };
+
+    /** One of the spoiling graphs, every vertex v having the number v + turned, from 0 again after the last. */
+    static PairedEnds spoiling(int[] listed, int turned) {
+        int n = listed[0];
+        PairedEnds graph = made(n);
+        for (int i = 1; i + 1 < listed.length; i += 2) {
+            graph.join((listed[i] + turned) % n, (listed[i + 1] + turned) % n);
+        }
+        return graph;
+    }
+
     /** Edges as two numbers each: made(4, 0, 1, 2, 3) has the edges 0-1 and 2-3. */
     static PairedEnds made(int n, int... ends) {
         PairedEnds graph = new PairedEnds();
@@ -13,6 +39,26 @@ final class Graphs {
             graph.join(ends[i], ends[i + 1]);
         }
         return graph;
+    }
+
+    /** The vertices have these pairs, two numbers each: ofRow(0, 1, 0, 2) has the edge 0-1. */
+    static PairedEnds ofRow(int... row) {
+        PairedEnds graph = made(row.length / 2);
+        for (int v = 0; v < row.length / 2; v++) {
+            for (int u = 0; u < v; u++) {
+                int one = 1 << row[2 * u] | 1 << row[2 * u + 1];
+                int other = 1 << row[2 * v] | 1 << row[2 * v + 1];
+                if ((one & other) != 0) {
+                    graph.join(u, v);
+                }
+            }
+        }
+        return graph;
+    }
+
+    /** Eight vertices with the fewest ends there can be: four ends have but six pairs. */
+    static PairedEnds eightOfFiveEnds() {
+        return ofRow(0, 1, 0, 2, 0, 3, 0, 4, 1, 2, 1, 3, 1, 4, 2, 3);
     }
 
     static PairedEnds ofCode(int n, int code) {
@@ -48,6 +94,22 @@ final class Graphs {
             graph.join(v - 1, v);
         }
         return graph;
+    }
+
+    /** Had eight vertices with all edges, was asked for its ends, and has no vertices. */
+    static PairedEnds emptied() {
+        PairedEnds graph = full(8);
+        for (int v = 7; v >= 0; v--) {
+            graph.ends();
+            graph.shrink();
+        }
+        return graph;
+    }
+
+    /** The call as one that answers something. */
+    static String shrunk(PairedEnds graph) {
+        graph.shrink();
+        return "nothing";
     }
 
     static PairedEnds cycle(int n) {

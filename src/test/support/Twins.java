@@ -3,10 +3,12 @@ final class Twins {
     private final PairedEnds real = new PairedEnds();
     private final Model model = new Model();
     private final StringBuilder calls = new StringBuilder();
+    private boolean alike = true;
 
+    /** After the first difference nothing more is asked: all that follows would differ by it alone. */
     void compare(String call, Checks.Call onReal, Checks.Call onModel) {
         calls.append(' ').append(call);
-        Checks.same(calls, Checks.outcome(onReal), Checks.outcome(onModel));
+        alike = alike && Checks.same(calls, Checks.outcome(onReal), Checks.outcome(onModel));
     }
 
     void grow() {
@@ -14,10 +16,7 @@ final class Twins {
     }
 
     void shrink() {
-        compare("shrink()", () -> {
-            real.shrink();
-            return "nothing";
-        }, () -> {
+        compare("shrink()", () -> Graphs.shrunk(real), () -> {
             model.shrink();
             return "nothing";
         });
