@@ -44,6 +44,8 @@ public final class BoundaryTermsTest {
     public static void main(String[] args) {
         Checks.sentence("What it is", "An object is used for at most 512 calls after it has been made",
                 BoundaryTermsTest::the512thCallAnswers);
+        Checks.sentence("What it is", "An object is used for at most 512 calls: those that are refused among them",
+                BoundaryTermsTest::the512thCallAfterRefusedOnes);
         Checks.sentence("Terms", "There are VERTICES 0 .. n - 1 (n at most 8)",
                 BoundaryTermsTest::numbersOfVertices);
         Checks.sentence("Terms", "between two different ones there is an EDGE or none",
@@ -130,6 +132,60 @@ public final class BoundaryTermsTest {
             for (int v = 0; v < 8; v++) {
                 Checks.due("shrink() after some " + calls + " calls", "nothing", () -> Graphs.shrunk(graph));
             }
+        }
+    }
+
+    /** One kind of call is refused time and again, until it is allowed as the last one of all. */
+    private static void the512thCallAfterRefusedOnes() {
+        PairedEnds eight = Graphs.made(8);
+        refuse(MOST_CALLS - 8 - 2, "grow()", Checks.STATE, eight, PairedEnds::grow);
+        eight.shrink();
+        Checks.due("grow() as call 512", 7, eight::grow);
+
+        PairedEnds none = new PairedEnds();
+        refuse(MOST_CALLS - 2, "shrink()", Checks.STATE, none, Graphs::shrunk);
+        none.grow();
+        Checks.due("shrink() as call 512", "nothing", () -> Graphs.shrunk(none));
+
+        for (Kind kind : List.of(
+                new Kind("join(0, 0)", Checks.ONE_VERTEX, graph -> graph.join(0, 0)),
+                new Kind("part(4, 0)", Checks.NO_VERTEX, graph -> graph.part(4, 0)),
+                new Kind("adjacent(0, -1)", Checks.NO_VERTEX, graph -> graph.adjacent(0, -1)),
+                new Kind("leader(4)", Checks.NO_VERTEX, graph -> graph.leader(4)),
+                new Kind("low(4)", Checks.NO_VERTEX, graph -> graph.low(4)),
+                new Kind("high(4)", Checks.NO_VERTEX, graph -> graph.high(4)))) {
+            for (Kind last : ON_A_PATH) {
+                PairedEnds path = Graphs.path(4);
+                refuse(MOST_CALLS - CALLS_TO_MAKE - 1, kind.name(), (String) kind.due(), path, kind.call());
+                Checks.due(last.name() + " after " + kind.name(), last.due(), () -> last.call().run(path));
+            }
+        }
+        refusedByTheState();
+    }
+
+    /** A star of four is no line graph; with the edge 1-2 more it is, by the pairs 0 1, 0 2, 0 3 and 1 4. */
+    private static void refusedByTheState() {
+        for (Kind kind : List.of(
+                new Kind("ends()", 5, PairedEnds::ends),
+                new Kind("low(3)", 1, graph -> graph.low(3)),
+                new Kind("high(3)", 4, graph -> graph.high(3)),
+                new Kind("loose()", 4 + 8, PairedEnds::loose),
+                new Kind("barrier()", 1, PairedEnds::barrier))) {
+            PairedEnds star = Graphs.star(4);
+            refuse(MOST_CALLS - CALLS_TO_MAKE - 2, kind.name(), Checks.STATE, star, kind.call());
+            star.join(1, 2);
+            Checks.due(kind.name() + " as call 512", kind.due(), () -> kind.call().run(star));
+        }
+        PairedEnds line = Graphs.star(4);
+        line.part(0, 3);
+        refuse(MOST_CALLS - CALLS_TO_MAKE - 3, "spoiler()", Checks.STATE, line, PairedEnds::spoiler);
+        line.join(0, 3);
+        Checks.due("spoiler() as call 512", 15, line::spoiler);
+    }
+
+    private static void refuse(int times, String name, String want, PairedEnds graph, Refusals.CallOn call) {
+        for (int time = 0; time < times; time++) {
+            Checks.due(name + " refused", want, () -> call.run(graph));
         }
     }
 
